@@ -1,0 +1,263 @@
+import java.util.Random;
+
+/** Runs of calls by chance, but the same each time, of PricedLooks and of the model: each answer must be alike. */
+public final class ModelTest {
+    private static final Due due = new Due("ModelTest");
+    private static final int[] ODD = {-1, 0, 1, 40, 41, 79, 80, 100, Integer.MAX_VALUE, Integer.MIN_VALUE, -2, -3};
+
+    private final Random random;
+    private final PricedLooks x = new PricedLooks();
+    private final Model m = new Model();
+    private final int run;
+    private int calls = 0;
+
+    private ModelTest(int run) {
+        this.run = run;
+        this.random = new Random(run * 7919L + 17);
+    }
+
+    public static void main(String[] args) {
+        int runs = args.length > 0 ? Integer.parseInt(args[0]) : 700;
+        for (int run = 0; run < runs && due.wrongs() == 0; run++) {
+            new ModelTest(run).play();
+        }
+        due.end();
+    }
+
+    private void play() {
+        readCity();
+        while (calls < 500) {
+            int before = due.wrongs();
+            int what = random.nextInt(100);
+            if (what < 2) {
+                readCity();
+            } else if (what < 25) {
+                sheets();
+            } else if (what < 60) {
+                steps();
+            } else if (what < 80) {
+                foretold();
+            } else {
+                asked();
+            }
+            if (due.wrongs() > before) {
+                return;
+            }
+        }
+    }
+
+    private void same(String call, int want, int got) {
+        calls++;
+        due.is("run " + run + ", call " + calls + ": " + call, want, got);
+    }
+
+    /** Mostly below a bound, at times odd. */
+    private int some(int bound) {
+        return random.nextInt(25) == 0 ? ODD[random.nextInt(ODD.length)] : random.nextInt(bound);
+    }
+
+    private int someCell() {
+        int wide = Math.max(1, m.count(1));
+        int high = Math.max(1, m.count(2));
+        return random.nextInt(12) == 0 ? some(90) : random.nextInt(wide) + 10 * random.nextInt(high);
+    }
+
+    private void readCity() {
+        String text = random.nextInt(4) == 0 ? spoiled(randomCity()) : randomCity();
+        for (int i = 0; i < text.length(); i += 8) {
+            int n = Math.min(8, text.length() - i);
+            long w = Due.word(text.substring(i, i + n));
+            same("feed(" + w + ", " + n + ")", m.feed(w, n), x.feed(w, n));
+        }
+        same("city() of " + text, m.city(), x.city());
+        same("fault()", m.fault(), x.fault());
+    }
+
+    private String randomCity() {
+        int wide = 1 + random.nextInt(10);
+        int high = 1 + random.nextInt(8);
+        int openness = 3 + random.nextInt(20);
+        String signs = "o".repeat(openness) + new String[] {"wmabcdef", "mab", "aabbwm", "mmma", "w", "abc"}[random.nextInt(6)];
+        StringBuilder text = new StringBuilder();
+        for (int y = 0; y < high; y++) {
+            text.append("row ");
+            for (int i = 0; i < wide; i++) {
+                text.append(signs.charAt(random.nextInt(signs.length())));
+            }
+            text.append(random.nextInt(5) == 0 ? " ;\n" : ";");
+        }
+        String rows = text.toString();
+        for (int n = random.nextInt(7); n > 0; n--) {
+            text.append("price ").append(random.nextInt(6)).append(' ').append(random.nextInt(random.nextBoolean() ? 12 : 100));
+            text.append(random.nextInt(3) == 0 ? " free;" : ";");
+        }
+        for (int n = random.nextInt(7); n > 0; n--) {
+            String where = openCell(rows);
+            String home = openCell(rows);
+            if (where != null && home != null) {
+                text.append("person ").append(where).append(' ').append(home);
+                text.append(new String[] {"", " child", " guided", ""}[random.nextInt(4)]).append(';');
+            }
+        }
+        return text.substring(0, Math.min(400, text.length()));
+    }
+
+    private String openCell(String rows) {
+        String[] lines = rows.replaceAll("row |[ \n]", "").split(";");
+        for (int tries = 0; tries < 50; tries++) {
+            int y = random.nextInt(lines.length);
+            int at = random.nextInt(lines[y].length());
+            if (lines[y].charAt(at) == 'o') {
+                return at + " " + y;
+            }
+        }
+        return null;
+    }
+
+    private String spoiled(String text) {
+        StringBuilder s = new StringBuilder(text);
+        String signs = "ow;m 09afrz \n5A-";
+        for (int n = 1 + random.nextInt(2); n > 0 && s.length() > 0; n--) {
+            int at = random.nextInt(s.length());
+            int how = random.nextInt(3);
+            if (how == 0) {
+                s.setCharAt(at, signs.charAt(random.nextInt(signs.length())));
+            } else if (how == 1) {
+                s.deleteCharAt(at);
+            } else {
+                s.insert(at, signs.charAt(random.nextInt(signs.length())));
+            }
+        }
+        if (random.nextInt(5) == 0) {
+            s.setLength(random.nextInt(s.length() + 1));
+        }
+        return s.substring(0, Math.min(400, s.length()));
+    }
+
+    private void sheets() {
+        int s = some(8);
+        int i = some(6);
+        int j = some(6);
+        int n = some(6);
+        int t = some(8);
+        switch (random.nextInt(9)) {
+            case 0:
+                int lane = some(3);
+                int size = some(41);
+                same("sheet(" + s + ", " + lane + ", " + size + ")", m.sheet(s, lane, size), x.sheet(s, lane, size));
+                break;
+            case 1: case 2: case 3:
+                int v = random.nextInt(6) == 0 ? random.nextInt() : some(random.nextInt(3) == 0 ? 16 : 8);
+                same("set(" + s + ", " + i + ", " + v + ")", m.set(s, i, v), x.set(s, i, v));
+                break;
+            case 4:
+                same("copy(" + s + ", " + i + ", " + t + ", " + j + ", " + n + ")", m.copy(s, i, t, j, n), x.copy(s, i, t, j, n));
+                break;
+            case 5:
+                if (random.nextInt(6) == 0) {
+                    same("drop(" + s + ")", m.drop(s), x.drop(s));
+                }
+                break;
+            default:
+                int p = some(6);
+                same("walk(" + p + ", " + s + ", " + i + ", " + n + ")", m.walk(p, s, i, n), x.walk(p, s, i, n));
+        }
+        same("status()", m.status(), x.status());
+    }
+
+    private void steps() {
+        int p = some(Math.max(1, m.count(3)));
+        int o = some(6);
+        int c = someCell();
+        int way = some(8);
+        int what = some(3);
+        switch (random.nextInt(8)) {
+            case 0: case 1:
+                same("look(" + c + ", " + way + ", " + what + ")", m.look(c, way, what), x.look(c, way, what));
+                break;
+            case 2:
+                int price = some(random.nextBoolean() ? 100 : 20);
+                same("price(" + o + ", " + price + ")", m.price(o, price), x.price(o, price));
+                break;
+            case 3: case 4:
+                int step = some(16);
+                same("step(" + p + ", " + step + ")", m.step(p, step), x.step(p, step));
+                break;
+            case 5: case 6:
+                int of = some(27);
+                same("person(" + p + ", " + of + ")", m.person(p, of), x.person(p, of));
+                break;
+            default:
+                same("got(" + o + ")", m.got(o), x.got(o));
+                same("witnesses(" + o + ")", m.witnesses(o), x.witnesses(o));
+        }
+    }
+
+    private void foretold() {
+        int p = some(Math.max(1, m.count(3)));
+        int o = some(6);
+        int c = someCell();
+        int k = some(2);
+        switch (random.nextInt(12)) {
+            case 0: case 1: case 2:
+                int g = random.nextInt(3) == 0 ? 0 : some(6);
+                for (int at = -2; at < 12; at++) {
+                    same("home(" + p + ", " + g + ", " + at + ")", m.home(p, g, at), x.home(p, g, at));
+                }
+                break;
+            case 3:
+                same("nothing(" + p + ")", m.nothing(p), x.nothing(p));
+                break;
+            case 4: case 5:
+                int cell = random.nextInt(4) == 0 ? -1 : c;
+                same("beauty(" + cell + ")", m.beauty(cell), x.beauty(cell));
+                break;
+            case 6: case 7:
+                same("earns(" + o + ", 0)", m.earns(o, 0), x.earns(o, 0));
+                break;
+            case 8:
+                int what = some(2);
+                same("earns(" + o + ", " + what + ")", m.earns(o, what), x.earns(o, what));
+                break;
+            case 9:
+                if (random.nextInt(8) == 0) {
+                    int one = some(7) - 1;
+                    same("rivals(" + one + ")", m.rivals(one), x.rivals(one));
+                }
+                break;
+            case 10:
+                same("wall(" + c + ", " + o + ")", m.wall(c, o), x.wall(c, o));
+                break;
+            default:
+                if (random.nextBoolean()) {
+                    same("image(" + k + ")", m.image(k), x.image(k));
+                } else {
+                    same("restore(" + k + ")", m.restore(k), x.restore(k));
+                }
+        }
+    }
+
+    private void asked() {
+        int c = someCell();
+        int what = some(2);
+        switch (random.nextInt(4)) {
+            case 0:
+                same("kind(" + c + ")", m.kind(c), x.kind(c));
+                break;
+            case 1:
+                int kind = some(6);
+                same("as(" + c + ", " + kind + ")", m.as(c, kind), x.as(c, kind));
+                same("status()", m.status(), x.status());
+                break;
+            case 2:
+                same("ask(" + c + ", " + what + ")", m.ask(c, what), x.ask(c, what));
+                for (int i = -1; i < 9; i++) {
+                    same("trace(" + i + ")", m.trace(i), x.trace(i));
+                }
+                break;
+            default:
+                int of = some(8);
+                same("count(" + of + ")", m.count(of), x.count(of));
+        }
+    }
+}
