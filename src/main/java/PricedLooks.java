@@ -290,7 +290,7 @@ public final class PricedLooks {
     }
 
     public int wall(int cell, int owner) {
-        if (!city.isOpen(cell) || city.isKeptFree(cell) || !isOwner(owner)) {
+        if (!city.isOpen(cell) || city.isTaken(cell) || !isOwner(owner)) {
             return BAD;
         }
         market.open(views);
@@ -868,7 +868,7 @@ public final class PricedLooks {
         }
 
         /** Whether somebody is there, or has his home there. */
-        boolean isKeptFree(int cell) {
+        boolean isTaken(int cell) {
             for (int n = 0; n < people; n++) {
                 if (places[n] == cell || homes[n] == cell) {
                     return true;
@@ -1022,10 +1022,10 @@ public final class PricedLooks {
                 return NONE;
             }
             int state = start;
-            for (int n = 0; n < k; n++) {
+            for (int n = 0; n < k && state != NOWHERE; n++) {
                 state = after(state, firstStep(state));
             }
-            return firstStep(state);
+            return state == NOWHERE ? NONE : firstStep(state);
         }
 
         /** How many times somebody pays the price of an owner on his way without blind steps. */
@@ -1036,7 +1036,7 @@ public final class PricedLooks {
             int times = 0;
             int state = start;
             int steps = length();
-            for (int n = 0; n < steps; n++) {
+            for (int n = 0; n < steps && state != NOWHERE; n++) {
                 int code = firstStep(state);
                 int view = state % CELLS * WAYS + code % WAYS;
                 times += views.front[view] == owner ? views.times(view) : 0;
