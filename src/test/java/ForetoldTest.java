@@ -144,6 +144,8 @@ public final class ForetoldTest {
         x = Due.of("row o;price 0 33;");
         due.is("no fronts", 1, x.rivals(-1));
         due.is("one without a front keeps his price", 33, x.rivals(0));
+        x = Due.of("row aoo;price 0 5;person 2 0 1 0;");
+        due.is("a front in the first cell", 20, x.rivals(0));
         x = Due.of("row ooob;price 1 5;person 0 0 2 0;");
         due.is("one front", 2, x.rivals(-1));
         due.is("its price", 20, x.rivals(1));

@@ -20,6 +20,7 @@ public final class ModelTest {
         int runs = args.length > 0 ? Integer.parseInt(args[0]) : 700;
         for (int run = 0; run < runs && due.wrongs() == 0; run++) {
             new ModelTest(run).play();
+            new ModelTest(run).waysAndPrices();
         }
         due.end();
     }
@@ -46,6 +47,27 @@ public final class ModelTest {
         }
     }
 
+    /** All that is foretold of one city, a large one at times: ways of all lengths, all best prices, all rivals. */
+    private void waysAndPrices() {
+        String text = run % 8 == 0 ? randomCity(10, 8) : randomCity(2 + random.nextInt(4), 1 + random.nextInt(4));
+        feedAll(text);
+        same("city() of " + text, m.city(), x.city());
+        for (int p = 0; p < m.count(3); p++) {
+            for (int g = 0; g < 6; g++) {
+                for (int k = -2; k < 14; k++) {
+                    same("home(" + p + ", " + g + ", " + k + ") in " + text, m.home(p, g, k), x.home(p, g, k));
+                }
+            }
+            same("nothing(" + p + ") in " + text, m.nothing(p), x.nothing(p));
+        }
+        for (int o = 0; o < 6; o++) {
+            same("earns(" + o + ", 1) in " + text, m.earns(o, 1), x.earns(o, 1));
+        }
+        for (int o = -1; o < (run % 8 == 0 ? 0 : 6); o++) {
+            same("rivals(" + o + ") in " + text, m.rivals(o), x.rivals(o));
+        }
+    }
+
     private void same(String call, int want, int got) {
         calls++;
         due.is("run " + run + ", call " + calls + ": " + call, want, got);
@@ -63,19 +85,22 @@ public final class ModelTest {
     }
 
     private void readCity() {
-        String text = random.nextInt(4) == 0 ? spoiled(randomCity()) : randomCity();
+        String good = randomCity(1 + random.nextInt(10), 1 + random.nextInt(8));
+        String text = random.nextInt(4) == 0 ? spoiled(good) : good;
+        feedAll(text);
+        same("city() of " + text, m.city(), x.city());
+        same("fault()", m.fault(), x.fault());
+    }
+
+    private void feedAll(String text) {
         for (int i = 0; i < text.length(); i += 8) {
             int n = Math.min(8, text.length() - i);
             long w = Due.word(text.substring(i, i + n));
             same("feed(" + w + ", " + n + ")", m.feed(w, n), x.feed(w, n));
         }
-        same("city() of " + text, m.city(), x.city());
-        same("fault()", m.fault(), x.fault());
     }
 
-    private String randomCity() {
-        int wide = 1 + random.nextInt(10);
-        int high = 1 + random.nextInt(8);
+    private String randomCity(int wide, int high) {
         int openness = 3 + random.nextInt(20);
         String signs = "o".repeat(openness) + new String[] {"wmabcdef", "mab", "aabbwm", "mmma", "w", "abc"}[random.nextInt(6)];
         StringBuilder text = new StringBuilder();

@@ -91,6 +91,8 @@ public final class TextsTest {
         faulty("row ^;", 1);
         faulty("row ^5;", 1);
         faulty("row ^og;", 1);
+        faulty("row ^ozo;", 1);
+        faulty("^zrow o;", 1);
         faulty("row ^ooooooooooo;", 1);
         faulty("row o^O;", 1);
         faulty("row o ^o;", 1);
