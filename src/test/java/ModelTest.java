@@ -5,6 +5,13 @@ public final class ModelTest {
     private static final Due due = new Due("ModelTest");
     private static final int[] ODD = {-1, 0, 1, 40, 41, 79, 80, 100, Integer.MAX_VALUE, Integer.MIN_VALUE, -2, -3};
 
+    /** A field, and a corridor to it: the search for the way puts more on its queue than the queue is long. */
+    private static final String[] FIELDS = {
+        "row oooobooobo;row oooomaoooo;row oooboooood;row odoodooooo;row ocoooooooo;row ooaoocoooo;row bbaacbcbbo;"
+            + "row oooooooooo;price 0 75;price 1 99;price 2 82;price 3 43;person 0 7 0 5 guided;",
+        "row oooooodooo;row ooocoooooo;row ooboooooom;row ooooodmobo;row ooboooooao;row oboocaoooo;row abbcwwaabo;"
+            + "row oooooooooo;price 0 56;price 1 9;price 2 24;price 3 88;person 0 7 6 4 guided;"};
+
     private final Random random;
     private final PricedLooks x = new PricedLooks();
     private final Model m = new Model();
@@ -21,6 +28,9 @@ public final class ModelTest {
         for (int run = 0; run < runs && due.wrongs() == 0; run++) {
             new ModelTest(run).play();
             new ModelTest(run).waysAndPrices();
+        }
+        for (String text : FIELDS) {
+            new ModelTest(0).waysAndPrices(text, false);
         }
         due.end();
     }
@@ -50,6 +60,10 @@ public final class ModelTest {
     /** All that is foretold of one city, a large one at times: ways of all lengths, all best prices, all rivals. */
     private void waysAndPrices() {
         String text = run % 8 == 0 ? randomCity(10, 8) : randomCity(2 + random.nextInt(4), 1 + random.nextInt(4));
+        waysAndPrices(text, run % 8 != 0);
+    }
+
+    private void waysAndPrices(String text, boolean withRivals) {
         feedAll(text);
         same("city() of " + text, m.city(), x.city());
         for (int p = 0; p < m.count(3); p++) {
@@ -63,7 +77,7 @@ public final class ModelTest {
         for (int o = 0; o < 6; o++) {
             same("earns(" + o + ", 1) in " + text, m.earns(o, 1), x.earns(o, 1));
         }
-        for (int o = -1; o < (run % 8 == 0 ? 0 : 6); o++) {
+        for (int o = -1; o < (withRivals ? 6 : 0); o++) {
             same("rivals(" + o + ") in " + text, m.rivals(o), x.rivals(o));
         }
     }
