@@ -966,10 +966,10 @@ public final class PricedLooks {
 
     /**
      * The way home, from its end: what is left to pay and to go from each cell with each number of blind steps left.
-     * A way's weight is its cost times DEAREST and its steps, so that one number orders by both.
+     * A way's weight is its cost times LONGEST, more than any way's steps, and its steps: one number orders by both.
      */
     private static final class WayHome {
-        private static final int DEAREST = 1024, FAR = 1 << 30;
+        private static final int LONGEST = 1024, FAR = 1 << 30;
         private static final int LAYERS = MOST_BLIND + 1, STATES = CELLS * LAYERS, MOST_TURNS = 1000000;
 
         private final City city;
@@ -1010,11 +1010,11 @@ public final class PricedLooks {
         }
 
         int cost() {
-            return left[start] / DEAREST;
+            return left[start] / LONGEST;
         }
 
         int length() {
-            return left[start] % DEAREST;
+            return left[start] % LONGEST;
         }
 
         int stepAt(int k) {
@@ -1063,7 +1063,7 @@ public final class PricedLooks {
         }
 
         private int weight(int view) {
-            return due[views.front[view]] * (1 + views.mirrors[view]) * DEAREST + 1;
+            return due[views.front[view]] * (1 + views.mirrors[view]) * LONGEST + 1;
         }
 
         private void spread(int state) {
