@@ -26,8 +26,31 @@ final class Due {
         is(what, 1, fact ? 1 : 0);
     }
 
+    /** A text on a new object, with its fault where the mark ^ stands, which is not a part of it. */
+    void faulty(String marked, int number) {
+        int place = marked.indexOf('^');
+        String text = marked.substring(0, place) + marked.substring(place + 1);
+        PricedLooks x = new PricedLooks();
+        is("city of " + marked, -1000100 - place, read(x, text));
+        is("fault of " + marked, number, x.fault());
+        is("no city by " + marked, STATE, x.got(0));
+        is("the tape behind " + marked, 0, x.count(6));
+    }
+
+    /** A text on a new object that has no fault. */
+    void reads(String text, int people) {
+        PricedLooks x = new PricedLooks();
+        is("city of " + text, people, read(x, text));
+        is("no fault of " + text, 0, x.fault());
+        is("people of " + text, people, x.count(3));
+    }
+
     int wrongs() {
         return wrong;
+    }
+
+    int answers() {
+        return right + wrong;
     }
 
     void end() {

@@ -10,7 +10,9 @@ public final class ModelTest {
         "row oooobooobo;row oooomaoooo;row oooboooood;row odoodooooo;row ocoooooooo;row ooaoocoooo;row bbaacbcbbo;"
             + "row oooooooooo;price 0 75;price 1 99;price 2 82;price 3 43;person 0 7 0 5 guided;",
         "row oooooodooo;row ooocoooooo;row ooboooooom;row ooooodmobo;row ooboooooao;row oboocaoooo;row abbcwwaabo;"
-            + "row oooooooooo;price 0 56;price 1 9;price 2 24;price 3 88;person 0 7 6 4 guided;"};
+            + "row oooooooooo;price 0 56;price 1 9;price 2 24;price 3 88;person 0 7 6 4 guided;",
+        "row oooooomooo;row oodcoooomm;row oooooomcoo;row amaoooacoo;row oocoocoooc;row ooooomoooo;row caacabwaco;"
+            + "row oooooooooo;price 0 7;price 1 41;price 2 57;price 3 31;person 0 7 1 4 guided;"};
 
     private final Random random;
     private final PricedLooks x = new PricedLooks();

@@ -42,138 +42,120 @@ public final class TextsTest {
     }
 
     private static void texts() {
-        reads("row o;", 0);
-        reads("  row\no\n;\n\n", 0);
-        reads("row o;price0 1;person0 0 0 0child;", 1);
-        reads("row o;price 00 099free;person 000 00 0 0guided;", 1);
-        reads("row abcdefowmo;", 0);
-        reads(ROWS8, 0);
-        reads("row o;price 5 99;price 5 99;price 5 99;price 5 99;price 5 99;price 5 0;", 0);
-        reads("row oo;person 0 0 0 0;person 0 0 0 0;person 1 0 0 0;person 0 0 1 0;person 0 0 0 0;person 0 0 0 0;", 6);
+        due.reads("row o;", 0);
+        due.reads("  row\no\n;\n\n", 0);
+        due.reads("row o;price0 1;person0 0 0 0child;", 1);
+        due.reads("row o;price 00 099free;person 000 00 0 0guided;", 1);
+        due.reads("row abcdefowmo;", 0);
+        due.reads(ROWS8, 0);
+        due.reads("row o;price 5 99;price 5 99;price 5 99;price 5 99;price 5 99;price 5 0;", 0);
+        due.reads("row oo;person 0 0 0 0;person 0 0 0 0;person 1 0 0 0;person 0 0 1 0;person 0 0 0 0;person 0 0 0 0;", 6);
         StringBuilder full = new StringBuilder(ROWS8);
         while (full.length() < 400) {
             full.append(' ');
         }
-        reads(full.toString(), 0);
-    }
-
-    private static void reads(String text, int people) {
-        PricedLooks x = new PricedLooks();
-        due.is("city of " + text, people, Due.read(x, text));
-        due.is("no fault of " + text, 0, x.fault());
-        due.is("people of " + text, people, x.count(3));
-    }
-
-    /** The text's fault is where the mark ^ stands, which is not a part of it. */
-    private static void faulty(String marked, int number) {
-        int place = marked.indexOf('^');
-        String text = marked.substring(0, place) + marked.substring(place + 1);
-        PricedLooks x = new PricedLooks();
-        due.is("city of " + marked, -1000100 - place, Due.read(x, text));
-        due.is("fault of " + marked, number, x.fault());
-        due.is("no city by " + marked, Due.STATE, x.got(0));
-        due.is("the tape behind " + marked, 0, x.count(6));
+        due.reads(full.toString(), 0);
     }
 
     private static void faultsOfRows() {
-        faulty("^", 1);
-        faulty("  \n ^", 1);
-        faulty("row^", 1);
-        faulty("row ^", 1);
-        faulty("row oo^", 1);
-        faulty("row oo \n^", 1);
-        faulty("^rows o;", 1);
-        faulty("^ro w;", 1);
-        faulty("^rowo;", 1);
-        faulty("^Row o;", 1);
-        faulty("^;", 1);
-        faulty("^7;", 1);
-        faulty("row ^;", 1);
-        faulty("row ^5;", 1);
-        faulty("row ^og;", 1);
-        faulty("row ^ozo;", 1);
-        faulty("^zrow o;", 1);
-        faulty("row ^ooooooooooo;", 1);
-        faulty("row o^O;", 1);
-        faulty("row o ^o;", 1);
-        faulty("row o^1;", 1);
-        faulty("row o;row ^oo;", 1);
-        faulty("row oo;row ^o;", 1);
-        faulty("row oo;row ^oz;", 1);
-        faulty("row oo;row ^row;", 1);
-        faulty("row oo;^oo;", 1);
-        faulty("row oo;^\t", 1);
-        faulty("row oo;^" + (char) 255, 1);
-        faulty("row oo^,", 1);
-        faulty(ROWS8 + "^row o;", 3);
-        faulty(ROWS8 + "^row", 3);
-        faulty(ROWS8 + "^row zz", 3);
+        due.faulty("^", 1);
+        due.faulty("  \n ^", 1);
+        due.faulty("row^", 1);
+        due.faulty("row ^", 1);
+        due.faulty("row oo^", 1);
+        due.faulty("row oo \n^", 1);
+        due.faulty("^rows o;", 1);
+        due.faulty("^ro w;", 1);
+        due.faulty("^rowo;", 1);
+        due.faulty("^Row o;", 1);
+        due.faulty("^;", 1);
+        due.faulty("^7;", 1);
+        due.faulty("row ^;", 1);
+        due.faulty("row ^5;", 1);
+        due.faulty("row ^og;", 1);
+        due.faulty("row ^ozo;", 1);
+        due.faulty("^zrow o;", 1);
+        due.faulty("row ^ooooooooooo;", 1);
+        due.faulty("row o^O;", 1);
+        due.faulty("row o ^o;", 1);
+        due.faulty("row o^1;", 1);
+        due.faulty("row o;row ^oo;", 1);
+        due.faulty("row oo;row ^o;", 1);
+        due.faulty("row oo;row ^oz;", 1);
+        due.faulty("row oo;row ^row;", 1);
+        due.faulty("row oo;^oo;", 1);
+        due.faulty("row oo;^\t", 1);
+        due.faulty("row oo;^" + (char) 255, 1);
+        due.faulty("row oo^,", 1);
+        due.faulty(ROWS8 + "^row o;", 3);
+        due.faulty(ROWS8 + "^row", 3);
+        due.faulty(ROWS8 + "^row zz", 3);
     }
 
     private static void faultsOfPrices() {
-        faulty("row o;price^", 1);
-        faulty("row o;price ^;", 1);
-        faulty("row o;price ^a 1;", 1);
-        faulty("row o;price ^6 1;", 2);
-        faulty("row o;price ^999 1;", 2);
-        faulty("row o;price ^1234 1;", 1);
-        faulty("row o;price ^0000 1;", 1);
-        faulty("row o;price 0^;", 1);
-        faulty("row o;price 0^", 1);
-        faulty("row o;price 0 ^100;", 2);
-        faulty("row o;price 0 ^1000;", 1);
-        faulty("row o;price 0 ^x;", 1);
-        faulty("row o;price 0 ^-1;", 1);
-        faulty("row o;price 0 1 ^2;", 1);
-        faulty("row o;price 0 1 ^cheap;", 1);
-        faulty("row o;price 0 1 ^child;", 1);
-        faulty("row o;price 0 1 ^frees;", 1);
-        faulty("row o;price 0 1 free ^free;", 1);
-        faulty("row o;price 0 1 free^", 1);
-        faulty("row o;price ^6 100;", 2);
-        faulty("row o;price 0 1;price 0 1;price 0 1;price 0 1;price 0 1;price 0 1;^price 9 9;", 3);
-        faulty("row o;price 0 1;price 0 1;price 0 1;price 0 1;price 0 1;price 0 1;^row o;", 1);
-        faulty(ROWS8 + "price 0 1;^row o;", 1);
+        due.faulty("row o;price^", 1);
+        due.faulty("row o;price ^;", 1);
+        due.faulty("row o;price ^a 1;", 1);
+        due.faulty("row o;price ^6 1;", 2);
+        due.faulty("row o;price ^999 1;", 2);
+        due.faulty("row o;price ^1234 1;", 1);
+        due.faulty("row o;price ^0000 1;", 1);
+        due.faulty("row o;price 0^;", 1);
+        due.faulty("row o;price 0^", 1);
+        due.faulty("row o;price 0 ^100;", 2);
+        due.faulty("row o;price 0 ^1000;", 1);
+        due.faulty("row o;price 0 ^x;", 1);
+        due.faulty("row o;price 0 ^-1;", 1);
+        due.faulty("row o;price 0 1 ^2;", 1);
+        due.faulty("row o;price 0 1 ^cheap;", 1);
+        due.faulty("row o;price 0 1 ^child;", 1);
+        due.faulty("row o;price 0 1 ^frees;", 1);
+        due.faulty("row o;price 0 1 free ^free;", 1);
+        due.faulty("row o;price 0 1 free^", 1);
+        due.faulty("row o;price ^6 100;", 2);
+        due.faulty("row o;price 0 1;price 0 1;price 0 1;price 0 1;price 0 1;price 0 1;^price 9 9;", 3);
+        due.faulty("row o;price 0 1;price 0 1;price 0 1;price 0 1;price 0 1;price 0 1;^row o;", 1);
+        due.faulty(ROWS8 + "price 0 1;^row o;", 1);
     }
 
     private static void faultsOfPeople() {
-        faulty("row ow;person^", 1);
-        faulty("row ow;person ^;", 1);
-        faulty("row ow;person ^2 0 0 0;", 2);
-        faulty("row ow;person ^1234 0 0 0;", 1);
-        faulty("row ow;person 0 ^1 0 0;", 2);
-        faulty("row ow;person 0 ^999 0 0;", 2);
-        faulty("row ow;person 0 ^1000 0 0;", 1);
-        faulty("row ow;person 1 ^0 0 0;", 2);
-        faulty("row ow;person 1 ^child", 1);
-        faulty("row ow;person 1^", 1);
-        faulty("row ow;person 0 0 ^2 0;", 2);
-        faulty("row ow;person 0 0 1 ^0;", 2);
-        faulty("row ow;person 0 0 0 ^1;", 2);
-        faulty("row oa;person 0 0 1 ^0;", 2);
-        faulty("row om;person 0 0 1 ^0;", 2);
-        faulty("row ow;person 0 0 0 ^;", 1);
-        faulty("row ow;person 0 0 0 0^", 1);
-        faulty("row ow;person 0 0 0 0 ^0;", 1);
-        faulty("row ow;person 0 0 0 0 ^old;", 1);
-        faulty("row ow;person 0 0 0 0 ^free;", 1);
-        faulty("row ow;person 0 0 0 0 child ^guided;", 1);
-        faulty("row ow;person 0 0 0 0 guided ^guided;", 1);
-        faulty("row ow;person 0 0 0 0 guided^", 1);
+        due.faulty("row ow;person^", 1);
+        due.faulty("row ow;person ^;", 1);
+        due.faulty("row ow;person ^2 0 0 0;", 2);
+        due.faulty("row ow;person ^1234 0 0 0;", 1);
+        due.faulty("row ow;person 0 ^1 0 0;", 2);
+        due.faulty("row ow;person 0 ^999 0 0;", 2);
+        due.faulty("row ow;person 0 ^1000 0 0;", 1);
+        due.faulty("row ow;person 1 ^0 0 0;", 2);
+        due.faulty("row ow;person 1 ^child", 1);
+        due.faulty("row ow;person 1^", 1);
+        due.faulty("row ow;person 0 0 ^2 0;", 2);
+        due.faulty("row ow;person 0 0 1 ^0;", 2);
+        due.faulty("row ow;person 0 0 0 ^1;", 2);
+        due.faulty("row oa;person 0 0 1 ^0;", 2);
+        due.faulty("row om;person 0 0 1 ^0;", 2);
+        due.faulty("row ow;person 0 0 0 ^;", 1);
+        due.faulty("row ow;person 0 0 0 0^", 1);
+        due.faulty("row ow;person 0 0 0 0 ^0;", 1);
+        due.faulty("row ow;person 0 0 0 0 ^old;", 1);
+        due.faulty("row ow;person 0 0 0 0 ^free;", 1);
+        due.faulty("row ow;person 0 0 0 0 child ^guided;", 1);
+        due.faulty("row ow;person 0 0 0 0 guided ^guided;", 1);
+        due.faulty("row ow;person 0 0 0 0 guided^", 1);
         String six = "person 0 0 0 0;person 0 0 0 0;person 0 0 0 0;person 0 0 0 0;person 0 0 0 0;person 0 0 0 0;";
-        faulty("row o;" + six + "^person 0 0 0 0;", 3);
-        faulty("row o;" + six + "^price 0 0;", 1);
+        due.faulty("row o;" + six + "^person 0 0 0 0;", 3);
+        due.faulty("row o;" + six + "^price 0 0;", 1);
     }
 
     private static void faultsOfOrder() {
-        faulty("^price 0 1;row o;", 1);
-        faulty("^person 0 0 0 0;", 1);
-        faulty("row o;person 0 0 0 0;^price 0 1;", 1);
-        faulty("row o;person 0 0 0 0;^row o;", 1);
-        faulty("row o;price 0 1;^row o;", 1);
-        faulty("row o;^;", 1);
-        faulty("row o;^free;", 1);
-        faulty("row o;price ^9 !", 2);
+        due.faulty("^price 0 1;row o;", 1);
+        due.faulty("^person 0 0 0 0;", 1);
+        due.faulty("row o;person 0 0 0 0;^price 0 1;", 1);
+        due.faulty("row o;person 0 0 0 0;^row o;", 1);
+        due.faulty("row o;price 0 1;^row o;", 1);
+        due.faulty("row o;^;", 1);
+        due.faulty("row o;^free;", 1);
+        due.faulty("row o;price ^9 !", 2);
     }
 
     private static void replacing() {
